@@ -1,11 +1,19 @@
-/** Counts and prints the answers that are not as due. */
+/** Counts the answers that are not as due, and prints the first few of each sentence. */
 final class Checks {
-    private static final int MOST_PRINTED = 40;
+    private static final int MOST_PRINTED = 3;
     private int asked;
+    private int askedBefore;
     private int wrong;
+    private int wrongBefore;
     private String under = "";
 
+    /** What the next checks are about; what was named before must have had one. */
     void under(String name) {
+        if (!under.isEmpty() && asked == askedBefore) {
+            fail("nothing was checked");
+        }
+        askedBefore = asked;
+        wrongBefore = wrong;
         under = name;
     }
 
@@ -25,7 +33,7 @@ final class Checks {
 
     private void fail(String what) {
         wrong++;
-        if (wrong <= MOST_PRINTED) {
+        if (wrong - wrongBefore <= MOST_PRINTED) {
             System.out.println(under + ": " + what);
         }
     }
@@ -35,6 +43,7 @@ final class Checks {
     }
 
     void end() {
+        under("");
         System.out.println(wrong + " of " + asked + " checks are not as due");
         if (wrong != 0) {
             System.exit(1);

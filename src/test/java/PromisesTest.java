@@ -1,13 +1,5 @@
 /** Each promise by its number: ordinary inputs, the edges that the document names, and wrong inputs. */
-public final class PromisesTest {
-    private static final int INVALID = CommonsTurns.INVALID_ARGUMENT;
-    private static final int NOT_POSSIBLE = CommonsTurns.NOT_POSSIBLE;
-    private static final int LIMIT = CommonsTurns.LIMIT_REACHED;
-    private static final int NOT_FOUND = CommonsTurns.NOT_FOUND;
-    private static final int LEAST = Integer.MIN_VALUE;
-    private static final int MOST = Integer.MAX_VALUE;
-    private static final Checks checks = new Checks();
-
+public final class PromisesTest extends Bench {
     public static void main(String[] args) {
         newObject();
         member();
@@ -37,45 +29,13 @@ public final class PromisesTest {
         checks.end();
     }
 
-    private static void due(String call, long got, long want) {
-        checks.due(call, got, want);
-    }
-
-    private static CommonsTurns commons(int... worths) {
-        CommonsTurns x = new CommonsTurns();
-        for (int worth : worths) {
-            x.member(worth);
-        }
-        return x;
-    }
-
-    /** Settings 0 to 3, in their order. */
-    private static void settings(CommonsTurns x, int... values) {
-        for (int k = 0; k < values.length; k++) {
-            x.set(k, values[k]);
-        }
-    }
-
-    private static void uses(CommonsTurns x, int... units) {
-        for (int m = 0; m < units.length; m++) {
-            x.use(m, units[m]);
-        }
-    }
-
-    private static void text(CommonsTurns x, String text) {
-        x.clearText();
-        for (int k = 0; k < text.length(); k++) {
-            x.type(text.charAt(k));
-        }
-    }
-
-    private static void members(CommonsTurns x, String name, int what, int... wanted) {
+    private static void members(Noted x, String name, int what, int... wanted) {
         for (int m = 0; m < wanted.length; m++) {
             due(name + ": memberOf(" + m + ", " + what + ")", x.memberOf(m, what), wanted[m]);
         }
     }
 
-    private static void counts(CommonsTurns x, String name, int from, int... wanted) {
+    private static void counts(Noted x, String name, int from, int... wanted) {
         for (int k = 0; k < wanted.length; k++) {
             due(name + ": count(" + (from + k) + ")", x.count(from + k), wanted[k]);
         }
@@ -83,7 +43,7 @@ public final class PromisesTest {
 
     private static void newObject() {
         checks.under("promise 1");
-        CommonsTurns x = new CommonsTurns();
+        Noted x = new Noted();
         counts(x, "new", 0, 0, 0, 100, 0, 0, 0, 0, 0, 0, 0, 0, 0, 0);
         counts(x, "new", 20, 40, 40, 5, 50, 3);
         due("memberOf(0, 0)", x.memberOf(0, 0), INVALID);
@@ -91,14 +51,14 @@ public final class PromisesTest {
         due("close()", x.close(), NOT_POSSIBLE);
         due("undo()", x.undo(), NOT_POSSIBLE);
         due("fault(0)", x.fault(0), NOT_FOUND);
-        CommonsTurns y = new CommonsTurns();
+        Noted y = new Noted();
         y.member(7);
         due("another object's member", x.count(0), 0);
     }
 
     private static void member() {
         checks.under("promise 2");
-        CommonsTurns x = new CommonsTurns();
+        Noted x = new Noted();
         for (int worth : new int[] {-1, 31, LEAST, MOST}) {
             due("member(" + worth + ")", x.member(worth), INVALID);
         }
@@ -114,7 +74,7 @@ public final class PromisesTest {
         due("a ninth out of range", x.member(31), INVALID);
         due("members", x.count(0), 8);
 
-        CommonsTurns late = commons(1);
+        Noted late = commons(1);
         settings(late, 1, 100, 0, 0);
         late.use(0, 5);
         late.close();
@@ -127,7 +87,7 @@ public final class PromisesTest {
 
     private static void use() {
         checks.under("promise 3");
-        CommonsTurns x = commons(5, 10, 2);
+        Noted x = commons(5, 10, 2);
         due("use(0, 10)", x.use(0, 10), 2);
         due("use(1, 20)", x.use(1, 20), 20);
         due("use(2, 5)", x.use(2, 5), 8);
@@ -148,7 +108,7 @@ public final class PromisesTest {
         due("then the member 2", x.use(2, 20), 30);
         due("and the member 0 last", x.use(0, 20), 50);
 
-        CommonsTurns out = commons(1, 1);
+        Noted out = commons(1, 1);
         settings(out, 1, 0, 0, 10);
         uses(out, 4, 0);
         out.close();
@@ -160,8 +120,8 @@ public final class PromisesTest {
 
     private static void close() {
         checks.under("promise 4");
-        due("close() of nobody", new CommonsTurns().close(), NOT_POSSIBLE);
-        CommonsTurns x = commons(5, 10, 2);
+        due("close() of nobody", new Noted().close(), NOT_POSSIBLE);
+        Noted x = commons(5, 10, 2);
         uses(x, 10, 20, 5);
         due("close()", x.close(), 30);
         members(x, "use", 1, 0, 0, 0);
@@ -179,7 +139,7 @@ public final class PromisesTest {
         }
         due("never above 100", x.count(2), 100);
 
-        CommonsTurns hard = commons(0, 0);
+        Noted hard = commons(0, 0);
         settings(hard, 2, 0, 7, 999);
         uses(hard, 10, 10);
         due("close() beyond the health", hard.close(), 200);
@@ -191,15 +151,6 @@ public final class PromisesTest {
         due("charges in season 1", hard.memberOf(0, 3), 50 + 50);
     }
 
-    /** Damage 64 of the uses 2, 3, 3 leaves a health of 36. */
-    private static CommonsTurns atLevel(int level, int mostOwed) {
-        CommonsTurns x = commons(1, 1, 1);
-        settings(x, 1, level, 0, mostOwed);
-        uses(x, 2, 3, 3);
-        x.close();
-        return x;
-    }
-
     private static void exclusionInTurn() {
         checks.under("promise 4, in turn");
         due("at the level", atLevel(36, 999).count(7), 0);
@@ -209,7 +160,7 @@ public final class PromisesTest {
         due("21 below it: all but one", atLevel(57, 999).count(7), 6);
         due("64 below it: all but one", atLevel(100, 999).count(7), 6);
 
-        CommonsTurns x = atLevel(46, 999);
+        Noted x = atLevel(46, 999);
         members(x, "used since", 6, 2, 0, 3);
         members(x, "used", 5, 2, 3, 3);
         members(x, "seasons out", 8, 0, 1, 0);
@@ -226,13 +177,13 @@ public final class PromisesTest {
         due("health enough: nobody", x.count(7), 0);
         members(x, "seasons out stay", 8, 1, 2, 1);
 
-        CommonsTurns few = atLevel(100, 999);
+        Noted few = atLevel(100, 999);
         few.close();
         due("not so many: fewer", few.count(7), 1);
         few.close();
         due("two again", few.count(7), 6);
 
-        CommonsTurns one = commons(1);
+        Noted one = commons(1);
         settings(one, 1, 100, 0, 999);
         one.use(0, 10);
         one.close();
@@ -248,7 +199,7 @@ public final class PromisesTest {
         due("all of them", atLevel(0, 3).count(7), 7);
         due("in turn and by debts", atLevel(46, 38).count(7), 6);
 
-        CommonsTurns x = atLevel(0, 38);
+        Noted x = atLevel(0, 38);
         members(x, "debts are no turn", 6, 2, 3, 3);
         due("what is owed at the end counts", x.pay(2, 39), 0);
         due("still out in this season", x.memberOf(2, 7), 1);
@@ -256,7 +207,7 @@ public final class PromisesTest {
         due("free again", x.count(7), 0);
         members(x, "seasons out", 8, 0, 0, 1);
 
-        CommonsTurns both = atLevel(46, 20);
+        Noted both = atLevel(46, 20);
         due("in turn by use, and both by debts", both.count(7), 6);
         members(both, "since", 6, 2, 0, 3);
         both.close();
@@ -267,7 +218,7 @@ public final class PromisesTest {
 
     private static void pay() {
         checks.under("promise 5");
-        CommonsTurns x = commons(5, 10, 2);
+        Noted x = commons(5, 10, 2);
         uses(x, 10, 20, 5);
         x.close();
         due("pay(1, 15)", x.pay(1, 15), 5);
@@ -285,7 +236,7 @@ public final class PromisesTest {
         members(x, "owed", 3, 2, 0, 5);
         due("fund", x.count(5), 23);
         due("all owed", x.count(6), 7);
-        CommonsTurns much = commons(0, 0, 0);
+        Noted much = commons(0, 0, 0);
         settings(much, 1, 0, 0, 0);
         uses(much, 20, 20, 20);
         much.close();
@@ -296,7 +247,7 @@ public final class PromisesTest {
 
     private static void repair() {
         checks.under("promise 6");
-        CommonsTurns x = commons(5, 10, 2);
+        Noted x = commons(5, 10, 2);
         uses(x, 10, 20, 5);
         x.close();
         x.pay(1, 15);
@@ -317,7 +268,7 @@ public final class PromisesTest {
         members(x, "this season's use doesn't count", 3, 8 + 12, 15 + 24, 10 + 6);
         due("repair(1) at 100", x.repair(1), NOT_POSSIBLE);
 
-        CommonsTurns rest = commons(0, 0, 0, 0);
+        Noted rest = commons(0, 0, 0, 0);
         settings(rest, 1, 0, 0, 999);
         uses(rest, 0, 3, 3, 3);
         rest.close();
@@ -325,9 +276,9 @@ public final class PromisesTest {
         due("repair(2), less than a share", rest.repair(2), 2);
         members(rest, "one coin each, the lowest with uses", 3, 0, 9 + 1, 27 + 1, 45);
 
-        CommonsTurns unused = commons(3);
+        Noted unused = commons(3);
         due("repair(1) of full health", unused.repair(1), NOT_POSSIBLE);
-        CommonsTurns newcomers = commons(3, 3);
+        Noted newcomers = commons(3, 3);
         settings(newcomers, 1, 0, 0, 999);
         newcomers.use(0, 1);
         newcomers.close();
@@ -340,7 +291,7 @@ public final class PromisesTest {
         due("repair(1), 4 of it owed", newcomers.repair(1), 4);
         members(newcomers, "all by the only one with a use", 3, 4, 0);
 
-        CommonsTurns units = commons(0, 0);
+        Noted units = commons(0, 0);
         settings(units, 1, 0, 0, 999);
         uses(units, 1, 2);
         units.close();
@@ -349,7 +300,7 @@ public final class PromisesTest {
         due("repair(2), 8 of it owed", units.repair(2), 8);
         members(units, "a single unit is a use", 3, 1 + 1 + 2 + 1, 8 + 2 + 5);
 
-        CommonsTurns none = commons(0, 0);
+        Noted none = commons(0, 0);
         settings(none, 1, 0, 0, 999);
         uses(none, 20, 0);
         none.close();
@@ -361,7 +312,7 @@ public final class PromisesTest {
     private static void set() {
         checks.under("promise 7");
         int[][] ranges = {{1, 200, 40}, {0, 100, 40}, {0, 50, 5}, {0, 999, 50}, {1, 20, 3}};
-        CommonsTurns x = new CommonsTurns();
+        Noted x = new Noted();
         for (int what = 0; what < 5; what++) {
             int[] range = ranges[what];
             due("set(" + what + ", least - 1)", x.set(what, range[0] - 1), INVALID);
@@ -375,7 +326,7 @@ public final class PromisesTest {
         }
         counts(x, "all", 20, 200, 100, 50, 999, 20);
         due("states", x.count(11), 4);
-        CommonsTurns y = commons(1);
+        Noted y = commons(1);
         y.use(0, 20);
         due("damage by 40", y.count(4), 10);
         y.set(0, 3);
@@ -384,7 +335,7 @@ public final class PromisesTest {
 
     private static void memberOf() {
         checks.under("promise 8");
-        CommonsTurns x = atLevel(46, 999);
+        Noted x = atLevel(46, 999);
         x.pay(1, 4);
         x.use(2, 5);
         x.use(0, 1);
@@ -407,7 +358,7 @@ public final class PromisesTest {
 
     private static void count() {
         checks.under("promise 9");
-        CommonsTurns x = atLevel(46, 999);
+        Noted x = atLevel(46, 999);
         x.pay(1, 4);
         x.use(2, 5);
         x.set(4, 2);
@@ -422,7 +373,7 @@ public final class PromisesTest {
 
     private static void seasonOf() {
         checks.under("promise 10");
-        CommonsTurns x = atLevel(46, 999);
+        Noted x = atLevel(46, 999);
         x.set(2, 9);
         x.use(0, 3);
         x.close();
@@ -451,7 +402,7 @@ public final class PromisesTest {
 
     private static void gain() {
         checks.under("promise 11");
-        CommonsTurns x = commons(5, 10, 2);
+        Noted x = commons(5, 10, 2);
         uses(x, 10, 20, 5);
         due("gain(1, 10)", x.gain(1, 10), 10092);
         due("gain(1, 0)", x.gain(1, 0), 10000);
@@ -464,11 +415,11 @@ public final class PromisesTest {
         for (int m : new int[] {-1, 3, LEAST, MOST}) {
             due("gain(" + m + ", 0)", x.gain(m, 0), INVALID);
         }
-        CommonsTurns worst = commons(0, 0, 0, 0, 0, 0, 0, 0);
+        Noted worst = commons(0, 0, 0, 0, 0, 0, 0, 0);
         worst.set(0, 1);
         uses(worst, 20, 20, 20, 20, 20, 20, 20, 20);
         due("the least gain of all", worst.gain(7, 20), 4000);
-        CommonsTurns out = atLevel(46, 999);
+        Noted out = atLevel(46, 999);
         due("gain(1, 1) of one who is out", out.gain(1, 1), NOT_POSSIBLE);
         due("gain(1, 0) of one who is out", out.gain(1, 0), 10000);
         due("gain(1, 21) of one who is out", out.gain(1, 21), INVALID);
@@ -476,7 +427,7 @@ public final class PromisesTest {
 
     private static void bestUse() {
         checks.under("promise 12");
-        CommonsTurns x = commons(5, 10, 2);
+        Noted x = commons(5, 10, 2);
         uses(x, 10, 20, 5);
         due("bestUse(0)", x.bestUse(0), 20);
         due("bestUse(1)", x.bestUse(1), 20);
@@ -484,15 +435,15 @@ public final class PromisesTest {
         for (int m : new int[] {-1, -2, 3, LEAST, MOST}) {
             due("bestUse(" + m + ")", x.bestUse(m), INVALID);
         }
-        CommonsTurns zero = commons(0);
+        Noted zero = commons(0);
         due("no worth: the least of several", zero.bestUse(0), 0);
-        CommonsTurns little = commons(2);
+        Noted little = commons(2);
         little.set(0, 1);
         due("1 unit: 2 less 1; 2 units: 4 less 4", little.bestUse(0), 1);
-        CommonsTurns some = commons(1);
+        Noted some = commons(1);
         some.set(0, 8);
         due("4 units: 4 less 2; 3 units: 3 less 1; 2 units: 2 less 0", some.bestUse(0), 2);
-        CommonsTurns out = atLevel(46, 999);
+        Noted out = atLevel(46, 999);
         due("one who is out", out.bestUse(1), 0);
         due("another", out.bestUse(0), 0);
         out.set(0, 200);
@@ -502,7 +453,7 @@ public final class PromisesTest {
 
     private static void calm() {
         checks.under("promise 13");
-        CommonsTurns x = commons(5, 10, 2);
+        Noted x = commons(5, 10, 2);
         uses(x, 10, 20, 5);
         due("rounds", x.calm(-2), 2);
         due("sum", x.calm(-1), 40);
@@ -515,17 +466,17 @@ public final class PromisesTest {
         }
         uses(x, 20, 20, 0);
         due("one round of those that are calm", x.calm(-2), 1);
-        CommonsTurns nobody = new CommonsTurns();
+        Noted nobody = new Noted();
         due("nobody's sum", nobody.calm(-1), 0);
         due("nobody's rounds", nobody.calm(-2), 1);
         due("nobody's use", nobody.calm(0), INVALID);
-        CommonsTurns turned = commons(2, 30);
+        Noted turned = commons(2, 30);
         turned.set(1, 0);
         turned.close();
         due("the first in number is last in order: rounds", turned.calm(-2), 3);
         due("its use: 28 less 18, 30 less 20 and 32 less 22", turned.calm(0), 14);
         due("the other's use", turned.calm(1), 20);
-        CommonsTurns out = atLevel(46, 999);
+        Noted out = atLevel(46, 999);
         out.set(0, 200);
         due("of one who is out", out.calm(1), 0);
         due("sum without that one: 19, and 20 behind them", out.calm(-1), 39);
@@ -533,7 +484,7 @@ public final class PromisesTest {
 
     private static void bestForAll() {
         checks.under("promise 14");
-        CommonsTurns x = commons(5, 10, 2);
+        Noted x = commons(5, 10, 2);
         due("units", x.bestForAll(0), 40);
         due("surplus", x.bestForAll(1), 260);
         uses(x, 1, 2, 3);
@@ -543,20 +494,20 @@ public final class PromisesTest {
         for (int what : new int[] {-1, 2, LEAST, MOST}) {
             due("bestForAll(" + what + ")", x.bestForAll(what), INVALID);
         }
-        CommonsTurns nobody = new CommonsTurns();
+        Noted nobody = new Noted();
         due("nobody's units", nobody.bestForAll(0), 0);
         due("nobody's surplus", nobody.bestForAll(1), 0);
-        CommonsTurns poor = commons(1);
+        Noted poor = commons(1);
         poor.set(0, 1);
         due("worth as great as the damage", poor.bestForAll(0), 0);
-        CommonsTurns rich = commons(30, 30, 30, 30, 30, 30, 30, 30);
+        Noted rich = commons(30, 30, 30, 30, 30, 30, 30, 30);
         rich.set(0, 200);
         due("all units that there are", rich.bestForAll(0), 160);
         due("their surplus", rich.bestForAll(1), 4800 - 128);
-        CommonsTurns stops = commons(1, 1, 1);
+        Noted stops = commons(1, 1, 1);
         due("it stops at the first unit that is not worth it", stops.bestForAll(0), 6);
         due("its surplus", stops.bestForAll(1), 6);
-        CommonsTurns out = commons(5, 30, 5);
+        Noted out = commons(5, 30, 5);
         settings(out, 1, 46, 0, 999);
         uses(out, 2, 3, 3);
         out.close();
@@ -568,8 +519,8 @@ public final class PromisesTest {
 
     private static void wouldExclude() {
         checks.under("promise 15");
-        due("nobody", new CommonsTurns().wouldExclude(), 0);
-        CommonsTurns x = commons(1, 1, 1);
+        due("nobody", new Noted().wouldExclude(), 0);
+        Noted x = commons(1, 1, 1);
         settings(x, 1, 47, 0, 38);
         due("no use", x.wouldExclude(), 0);
         uses(x, 2, 3, 3);
@@ -585,8 +536,8 @@ public final class PromisesTest {
 
     private static void canRepair() {
         checks.under("promise 16");
-        due("a new one", new CommonsTurns().canRepair(), 0);
-        CommonsTurns x = commons(1);
+        due("a new one", new Noted().canRepair(), 0);
+        Noted x = commons(1);
         settings(x, 5, 0, 0, 999);
         x.use(0, 20);
         x.close();
@@ -607,7 +558,7 @@ public final class PromisesTest {
 
     private static void undo() {
         checks.under("promise 17");
-        CommonsTurns x = new CommonsTurns();
+        Noted x = new Noted();
         x.member(3);
         x.use(0, 20);
         due("undo()", x.undo(), 1);
@@ -616,7 +567,7 @@ public final class PromisesTest {
         due("the member is gone", x.count(0), 0);
         due("undo()", x.undo(), NOT_POSSIBLE);
 
-        CommonsTurns y = atLevel(46, 20);
+        Noted y = atLevel(46, 20);
         y.pay(1, 9);
         y.repair(5);
         y.set(0, 77);
@@ -634,7 +585,7 @@ public final class PromisesTest {
         members(y, "paid", 4, 0, 0, 0);
         due("no more", y.undo(), NOT_POSSIBLE);
 
-        CommonsTurns seasons = commons(1);
+        Noted seasons = commons(1);
         for (int k = 0; k < 8; k++) {
             seasons.close();
         }
@@ -654,7 +605,7 @@ public final class PromisesTest {
 
     private static void type() {
         checks.under("promise 18");
-        CommonsTurns x = new CommonsTurns();
+        Noted x = new Noted();
         for (int c : new int[] {31, 127, -1, 0, 10, LEAST, MOST}) {
             due("type(" + c + ")", x.type(c), INVALID);
         }
@@ -671,7 +622,7 @@ public final class PromisesTest {
 
     private static void clearText() {
         checks.under("promise 19");
-        CommonsTurns x = new CommonsTurns();
+        Noted x = new Noted();
         due("clearText()", x.clearText(), 0);
         text(x, "m1;x");
         due("clearText()", x.clearText(), 4);
@@ -681,7 +632,7 @@ public final class PromisesTest {
         due("no change", x.count(11), 0);
     }
 
-    private static void faultIs(CommonsTurns x, String text, int at, int reason, int cause) {
+    private static void faultIs(Noted x, String text, int at, int reason, int cause) {
         text(x, text);
         due("fault(0) of " + text, x.fault(0), at);
         due("fault(1) of " + text, x.fault(1), reason);
@@ -691,7 +642,7 @@ public final class PromisesTest {
 
     private static void fault() {
         checks.under("promise 20");
-        CommonsTurns x = new CommonsTurns();
+        Noted x = new Noted();
         text(x, "m1;u0,20;c;p0,1;r1;");
         for (int what = 0; what < 3; what++) {
             due("fault(" + what + ") of no fault", x.fault(what), NOT_FOUND);
@@ -712,7 +663,7 @@ public final class PromisesTest {
         faultIs(x, "r101;", 0, 2, INVALID);
         due("nothing is done", x.count(0), 0);
         due("no change", x.count(11), 0);
-        CommonsTurns out = atLevel(46, 999);
+        Noted out = atLevel(46, 999);
         faultIs(out, "u0,1;u1,1;", 5, 2, NOT_POSSIBLE);
         x.member(2);
         text(x, "u0,3;");
@@ -721,13 +672,13 @@ public final class PromisesTest {
 
     private static void faultForms() {
         checks.under("promise 20, forms");
-        CommonsTurns x = commons(1, 1);
+        Noted x = commons(1, 1);
         String[] wrong = {"c", "m", "m;", "m1", "m1000;", "m0001;", "M1;", " c;", "c ;", ";", "c1;", "m 1;", "m1 ;",
             "m-1;", "m1,2;", "u", "u0", "u0;", "u0,;", "u,1;", "u0,1", "u0,1,", "u0,1000;", "u0000,1;", "u0 ,1;",
             "u0.1;", "p0;", "p,;", "p0,", "p0,0001;", "r;", "r1,1;", "r", "x;", "1;", "m1:", "m1/;", "/", "m/;", "m:;"};
         for (String text : wrong) {
-            faultIs(x, text, 0, 1, NOT_FOUND);
-            faultIs(x, "c;" + text, 2, 1, NOT_FOUND);
+            faultIs(commons(1, 1), text, 0, 1, NOT_FOUND);
+            faultIs(commons(1, 1), "c;" + text, 2, 1, NOT_FOUND);
         }
         faultIs(x, "c;c;;", 4, 1, NOT_FOUND);
         text(x, "m000;m01;m030;u001,020;c;");
@@ -741,7 +692,7 @@ public final class PromisesTest {
 
     private static void play() {
         checks.under("promise 21");
-        CommonsTurns x = new CommonsTurns();
+        Noted x = new Noted();
         due("play() of nothing", x.play(), 0);
         due("it is a change", x.count(11), 1);
         text(x, "m9;u0,20;c;p0,5;r1;");
@@ -765,7 +716,7 @@ public final class PromisesTest {
 
     private static void lastSeason() {
         checks.under("promise 4, the last season");
-        CommonsTurns x = commons(1);
+        Noted x = commons(1);
         text(x, "c;c;c;c;c;c;c;c;c;c;c;c;c;c;c;c;c;c;c;c;c;c;c;c;c;c;c;c;c;c;");
         for (int k = 0; k < 33; k++) {
             x.play();
